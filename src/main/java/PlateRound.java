@@ -283,7 +283,7 @@ public final class PlateRound {
         if (!Foresight.canLook(k, t) || !within(i, 0, k - 1)) {
             return BAD;
         }
-        foresight.look(round, 0, k, t);
+        foresight.look(round, k, t);
         return foresight.best[i];
     }
 
@@ -291,7 +291,7 @@ public final class PlateRound {
         if (!Foresight.canLook(k, t)) {
             return NO;
         }
-        foresight.look(round, 0, k, t);
+        foresight.look(round, k, t);
         return foresight.bestGain;
     }
 
@@ -445,7 +445,7 @@ public final class PlateRound {
         }
 
         void become(int plate, int state, int seat) {
-            if (has(plate)) {
+            if (plate >= 0 && plate < made) {
                 states[plate] = state;
                 seats[plate] = seat;
             }
@@ -986,14 +986,16 @@ public final class PlateRound {
             return within(k, 1, MOST_CHOICES) && within(t, 0, MOST_MORE);
         }
 
+        void look(Round now, int k, int t) {
+            bestGain = NO;
+            now.gain = 0;
+            tryChoices(now, 0, k, t);
+        }
+
         // Tries all choices from a level on; those of the levels ahead of it were played already.
-        void look(Round from, int level, int k, int t) {
+        private void tryChoices(Round from, int level, int k, int t) {
             if (level < 0 || level >= k || level >= MOST_CHOICES) {
                 return;
-            }
-            if (level == 0) {
-                bestGain = NO;
-                from.gain = 0;
             }
             Round next = copies[level];
             // Where nothing can be laid all choices are alike, and the least one stands for them.
@@ -1005,7 +1007,7 @@ public final class PlateRound {
                 next.layAtHatch(choice);
                 next.goByOnce();
                 if (level + 1 < k) {
-                    look(next, level + 1, k, t);
+                    tryChoices(next, level + 1, k, t);
                 } else {
                     for (int i = 0; i < t && next.isBusy(); i++) {
                         next.goByOnce();

@@ -9,6 +9,7 @@ public final class BeltTest {
         gone();
         riding();
         stale();
+        firstLimits();
         empties();
         counts();
         threeHundred();
@@ -181,6 +182,25 @@ public final class BeltTest {
         Due.is("age 23 is over 20, but not at the hatch", x.plate(2, 3), 0);
         x.tick(1);
         Due.is("thrown at the hatch", x.plate(2, 3), 4);
+    }
+
+    private static void firstLimits() {
+        for (int dish = 0; dish < 6; dish++) {
+            PlateRound x = new PlateRound(4);
+            x.lay(dish);
+            x.tick(20);
+            Due.is("20 old it stays at the hatch", x.at(0), 0);
+            PlateRound y = new PlateRound(1);
+            y.lay(dish);
+            y.tick(20);
+            Due.is("it came not to the hatch yet", y.at(6), 0);
+            y.tick(1);
+            Due.is("21 old it is thrown", y.plate(0, 3), 4);
+            Due.is("a refused limit", y.dish(dish, 5, 40), PlateRound.BAD);
+            y.lay(dish);
+            y.tick(21);
+            Due.is("changes nothing", y.plate(1, 3), 4);
+        }
     }
 
     private static void empties() {

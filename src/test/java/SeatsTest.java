@@ -13,6 +13,7 @@ public final class SeatsTest {
         paysAtLeaving();
         paysInARow();
         payerLeavesFirst();
+        payerLeaves();
         bills();
         puttingBack();
         puttingBackRefused();
@@ -97,6 +98,17 @@ public final class SeatsTest {
             x.guest(kind, kind, 654321);
             for (int dish = 0; dish < 6; dish++) {
                 Due.is("kind " + kind + " likes " + dish, x.liking(kind, dish), due[kind][dish]);
+            }
+        }
+        for (int dish = 0, tens = 1; dish < 6; dish++, tens *= 10) {
+            PlateRound y = withSeats(0, 2);
+            y.guest(0, 0, 9 * tens);
+            y.guest(1, 0, tens);
+            for (int other = 0; other < 6; other++) {
+                y.lay(other);
+                y.gone(0);
+                Due.is("likes of a digit alone", y.liking(0, other), other == dish ? 9 : 0);
+                Due.is("likes of a digit alone", y.liking(1, other), other == dish ? 1 : 0);
             }
         }
         x.seat(7);
@@ -234,6 +246,32 @@ public final class SeatsTest {
         Due.is("nothing came to the empty seat", x.seatTold(0, 5), 0);
     }
 
+    private static void payerLeaves() {
+        PlateRound x = withSeats(0, 4);
+        Due.rule(x, "take 0; go eaten;");
+        for (int seat = 0; seat < 4; seat++) {
+            x.guest(seat, 0, 0);
+        }
+        x.pays(0, 2);
+        x.pays(1, 2);
+        x.pays(3, 2);
+        x.pays(2, 1);
+        x.order(2, 0);
+        x.tick(4);
+        Due.is("seat 2 is left", x.seatTold(2, 1), -1);
+        int[] payers = {-1, -1, -1, -1};
+        for (int seat = 0; seat < 4; seat++) {
+            Due.is("the payer of " + seat, x.seatTold(seat, 7), payers[seat]);
+        }
+        Due.is("seat 1 has its bill", x.seatTold(1, 6), 100);
+        x.guest(2, 0, 0);
+        Due.is("pays for nobody", x.pays(0, 2), -1);
+        x.order(1, 1);
+        x.tick(3);
+        Due.is("seat 1 pays both", x.count(7), 200);
+        Due.is("others pay still", x.seatTold(0, 7), 2);
+    }
+
     private static void bills() {
         PlateRound x = withSeats(0, 1);
         Due.rule(x, EAT_ALL);
@@ -296,6 +334,10 @@ public final class SeatsTest {
         x.tick(4);
         Due.is("taken again", x.plate(0, 4), 0);
         Due.is("put back again", x.putBack(0), 0);
+        x.gone(1);
+        Due.is("once, though its place is free", x.putBack(0), PlateRound.STATE);
+        Due.is("it is gone", x.plate(0, 3), 5);
+        Due.is("eaten", x.seatTold(0, 2), 0);
     }
 
     private static void puttingBackRefused() {

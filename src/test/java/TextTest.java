@@ -7,6 +7,8 @@ public final class TextTest {
         forcing();
         goodTexts();
         faults();
+        nearWords();
+        behindFaults();
         opened();
         deepest();
         values();
@@ -177,6 +179,48 @@ public final class TextTest {
         fault(x, "take 1 > 2;go 1;", 7);
         fault(x, "take 1 / 2;go 1;", 7);
         Due.is("no text came of it", x.count(8), 1);
+    }
+
+    // A word with another letter in it, one more or one less is another word.
+    private static void nearWords() {
+        String[] words = {"take", "go", "or", "and", "not", "like", "age", "waited", "eaten", "price", "room"};
+        for (String word : words) {
+            PlateRound x = new PlateRound(0);
+            for (int i = 0; i < word.length(); i++) {
+                nearWord(x, word, word.substring(0, i) + "z" + word.substring(i + 1));
+            }
+            nearWord(x, word, word + "z");
+            nearWord(x, word, "z" + word);
+            nearWord(x, word, word + word);
+            nearWord(x, word, word.substring(1));
+            nearWord(x, word, word.substring(0, word.length() - 1));
+        }
+    }
+
+    private static void nearWord(PlateRound x, String word, String near) {
+        switch (word) {
+            case "take": fault(x, near + " 1;go 1;", 0); break;
+            case "go": fault(x, "take 1;" + near + " 1;", 7); break;
+            case "or": case "and": fault(x, "take 1 " + near + " 2;go 1;", 7); break;
+            case "not": fault(x, "take " + near + " 1;go 1;", 5); break;
+            default: fault(x, "take " + near + ";go 1;", 5); break;
+        }
+    }
+
+    private static void behindFaults() {
+        PlateRound x = new PlateRound(0);
+        for (int i = 0; i < 10; i++) {
+            fault(x, "take 1+2*3-4 or not 5 and 6<7;go 1+2*3-4 or not 5 and 6<7", 57);
+        }
+        x.seat(1);
+        x.guest(0, 0, 0);
+        x.lay(0);
+        for (int i = 1; i <= 5; i++) {
+            Due.is("text " + i, Due.text(x, "take 10-" + i + "*2;go -" + i + "*" + i + "-1;"), i);
+            x.force(i);
+            Due.is("take of text " + i, x.says(0, 0, 0), 10 - i * 2);
+            Due.is("go of text " + i, x.says(0, 0, 1), -i * i - 1);
+        }
     }
 
     private static void opened() {

@@ -57,6 +57,13 @@ public final class TicksTest {
             Due.is("tick(60)", x.tick(60), 0);
         }
         Due.is("ticks", x.count(4), 9960);
+        PlateRound y = new PlateRound(0);
+        for (int i = 0; i < 166; i++) {
+            y.tick(60);
+        }
+        Due.is("to 9999", y.tick(39), 0);
+        Due.is("ticks", y.count(4), 9999);
+        Due.is("beyond 9999", y.tick(1), PlateRound.FULL);
         Due.is("beyond 9999", x.tick(40), PlateRound.FULL);
         Due.is("BAD is ahead of FULL", x.tick(61), PlateRound.BAD);
         Due.is("ticks", x.count(4), 9960);
