@@ -998,6 +998,9 @@ public final class PlateRound {
                 return;
             }
             Round next = copies[level];
+            if (next == null) {
+                return;
+            }
             // Where nothing can be laid all choices are alike, and the least one stands for them.
             boolean alike = from.belt[0] != NONE || from.plates.areFull();
             int last = alike ? 0 : DISHES;
@@ -1027,6 +1030,7 @@ public final class PlateRound {
 
     /** The TEXTS, and which of them is THE RULE. */
     private static final class Rules {
+        // TEXT 0 as Text's steps: take 4 < like + waited ; go room = eaten ;
         private static final int[] FIRST_TAKE = {4, -1, -3, -13, -11};
         private static final int[] FIRST_GO = {-6, -4, -12};
 
