@@ -346,9 +346,10 @@ public final class EdgesOfBeltTest {
     private static void limitOfItsDishNow() {
         Due.by("4 (2): its DISH's LIMIT, as it is then");
         PlateRound x = new PlateRound(0);
-        x.lay(1);
-        x.dish(1, 0, 5);
-        x.dish(0, 1, 60);
+        x.dish(5, 3, 5);
+        x.dish(3, 3, 60);
+        x.lay(5);
+        x.dish(5, 0, 5);
         x.tick(6);
         Due.is("of its dish, not of its colour", x.plate(0, 3), 4);
         x.dish(2, 2, 1);
