@@ -989,15 +989,16 @@ public final class PlateRound {
         void look(Round now, int k, int t) {
             bestGain = NO;
             now.gain = 0;
-            tryChoices(now, 0, k, t);
+            tryChoices(this, now, 0, k, t);
         }
 
         // Tries all choices from a level on; those of the levels ahead of it were played already.
-        private void tryChoices(Round from, int level, int k, int t) {
+        // It calls itself, and such a method alone is static (rule 8 of LANGUAGE.md).
+        private static void tryChoices(Foresight sight, Round from, int level, int k, int t) {
             if (level < 0 || level >= k || level >= MOST_CHOICES) {
                 return;
             }
-            Round next = copies[level];
+            Round next = sight.copies[level];
             if (next == null) {
                 return;
             }
@@ -1005,17 +1006,17 @@ public final class PlateRound {
             boolean alike = from.belt[0] != NONE || from.plates.areFull();
             int last = alike ? 0 : DISHES;
             for (int choice = 0; choice <= last; choice++) {
-                choices[level] = choice;
+                sight.choices[level] = choice;
                 next.copy(from);
                 next.layAtHatch(choice);
                 next.goByOnce();
                 if (level + 1 < k) {
-                    tryChoices(next, level + 1, k, t);
+                    tryChoices(sight, next, level + 1, k, t);
                 } else {
                     for (int i = 0; i < t && next.isBusy(); i++) {
                         next.goByOnce();
                     }
-                    keepBest(next.gain);
+                    sight.keepBest(next.gain);
                 }
             }
         }
